@@ -1,0 +1,51 @@
+import java.lang.reflect.Constructor;
+import java.lang.reflect.Field;
+import java.lang.reflect.Method;
+import java.lang.reflect.Modifier;
+import java.util.Arrays;
+import java.util.Set;
+import java.util.TreeSet;
+
+/** The public face: just what the document says is to be seen, and nothing beside it. */
+public final class FaceTest {
+    private static final String[] METHODS = {
+        "int print(long, boolean)",
+        "int hexadecimal(long, boolean)",
+        "int fixed(long, boolean, int, int)",
+        "int scientific(long, boolean, int, int)",
+        "int paper()",
+        "long paperAt(int)",
+        "long digits(long, boolean)",
+        "int power(long, boolean)",
+        "long next(long, boolean, boolean)",
+        "long narrowed(long)",
+        "long widened(long)",
+    };
+
+    private static String told(Method method) {
+        String parameters = Arrays.toString(method.getParameterTypes());
+        parameters = parameters.substring(1, parameters.length() - 1);
+        return method.getReturnType() + " " + method.getName() + "(" + parameters + ")";
+    }
+
+    public static void main(String[] args) {
+        Class<?> face = FloatWriter.class;
+        Check.equal("public final", face.getModifiers(), Modifier.PUBLIC | Modifier.FINAL);
+        Set<String> open = new TreeSet<>();
+        for (Method method : face.getDeclaredMethods()) {
+            if (!Modifier.isPrivate(method.getModifiers())) {
+                Check.equal(told(method), method.getModifiers(), Modifier.PUBLIC);
+                open.add(told(method));
+            }
+        }
+        Check.equal("methods", open, new TreeSet<>(Arrays.asList(METHODS)));
+        for (Field field : face.getDeclaredFields()) {
+            boolean isOpen = !Modifier.isPrivate(field.getModifiers());
+            Check.equal("field " + field.getName(), isOpen, field.getName().equals("NONE"));
+        }
+        Constructor<?>[] constructors = face.getDeclaredConstructors();
+        Check.equal("constructors", constructors.length, 1);
+        Check.equal("its parameters", constructors[0].getParameterCount(), 0);
+        Check.end();
+    }
+}
