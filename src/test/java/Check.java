@@ -7,14 +7,21 @@ final class Check {
     }
 
     private static int wrong = 0;
+    private static String sentence = null;
 
     private Check() {}
+
+    /** The words of the document that the checks from here on are about. */
+    static void sentence(String words) {
+        sentence = words;
+    }
 
     static void equal(String call, Object got, Object want) {
         if (!Objects.equals(got, want)) {
             wrong++;
             if (wrong <= 50) {
-                System.out.println(call + " answered " + got + ", due is " + want);
+                String about = sentence == null ? "" : " [" + sentence + "]";
+                System.out.println(call + " answered " + got + ", due is " + want + about);
             }
         }
     }
