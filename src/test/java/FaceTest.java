@@ -9,23 +9,27 @@ import java.util.TreeSet;
 /** The public face: just what the document says is to be seen, and nothing beside it. */
 public final class FaceTest {
     private static final String[] METHODS = {
-        "int print(long, boolean)",
-        "int hexadecimal(long, boolean)",
-        "int fixed(long, boolean, int, int)",
-        "int scientific(long, boolean, int, int)",
+        "int print(long, boolean) IllegalArgumentException",
+        "int hexadecimal(long, boolean) IllegalArgumentException",
+        "int fixed(long, boolean, int, int) IllegalArgumentException ArithmeticException",
+        "int scientific(long, boolean, int, int) IllegalArgumentException ArithmeticException",
         "int paper()",
         "long paperAt(int)",
-        "long digits(long, boolean)",
-        "int power(long, boolean)",
-        "long next(long, boolean, boolean)",
+        "long digits(long, boolean) IllegalArgumentException ArithmeticException",
+        "int power(long, boolean) IllegalArgumentException ArithmeticException",
+        "long next(long, boolean, boolean) IllegalArgumentException",
         "long narrowed(long)",
-        "long widened(long)",
+        "long widened(long) IllegalArgumentException",
     };
 
     private static String told(Method method) {
         String parameters = Arrays.toString(method.getParameterTypes());
         parameters = parameters.substring(1, parameters.length() - 1);
-        return method.getReturnType() + " " + method.getName() + "(" + parameters + ")";
+        StringBuilder thrown = new StringBuilder();
+        for (Class<?> exception : method.getExceptionTypes()) {
+            thrown.append(' ').append(exception.getSimpleName());
+        }
+        return method.getReturnType() + " " + method.getName() + "(" + parameters + ")" + thrown;
     }
 
     public static void main(String[] args) {

@@ -1,7 +1,8 @@
 /** Promises 11 and 12; how a value rounds stands in NumbersBoundaryTest. */
 public final class FormatsBoundaryTest {
     private static void narrowedZeros() {
-        Check.sentence("Promise 11: The narrow bits of the number to which a wide one's value rounds (0 and minus zero stay)");
+        Check.sentence("Promise 11: The narrow bits of the number to which a wide one's value rounds"
+                + " (0 and minus zero stay)");
         Fresh.narrowed(0L, 0L);
         Fresh.narrowed(Long.MIN_VALUE, 0x80000000L);
     }

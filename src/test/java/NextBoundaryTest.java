@@ -1,7 +1,8 @@
 /** Promise 10, sentence by sentence, in both formats. */
 public final class NextBoundaryTest {
     private static void eachSide(boolean narrow) {
-        Check.sentence("The bits of the least number of the format that is greater, or, if up is not so, of the greatest one that is less");
+        Check.sentence("The bits of the least number of the format that is greater, or, if up is not so,"
+                + " of the greatest one that is less");
         long sign = Numbers.signBit(narrow);
         long whole = narrow ? 0x00800000L : 0x0010000000000000L;
         Fresh.next(5L, narrow, true, 6L);

@@ -14,7 +14,8 @@ public final class NumbersBoundaryTest {
     }
 
     private static void narrowBits() {
-        Check.sentence("NARROW: the 32 lowest bits of a long, the others 0: a sign, 8 bits of exponent, 23 of fraction.");
+        Check.sentence("NARROW: the 32 lowest bits of a long, the others 0:"
+                + " a sign, 8 bits of exponent, 23 of fraction.");
         Fresh.hexadecimal(1L << 31, true, "-0x0.0p0");
         Fresh.hexadecimal(1L << 30, true, "0x1.0p1");
         Fresh.hexadecimal(1L << 23, true, "0x1.0p-126");

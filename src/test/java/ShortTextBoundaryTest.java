@@ -94,7 +94,8 @@ public final class ShortTextBoundaryTest {
     }
 
     private static void withPower() {
-        Check.sentence("else: d, a point, the other figures (0 if there is none), E, and the power of 10 that d stands for");
+        Check.sentence("else: d, a point, the other figures (0 if there is none), E,"
+                + " and the power of 10 that d stands for");
         Fresh.printWide(2e7, "2.0E7");
         Fresh.printWide(1.2e7, "1.2E7");
         Fresh.printWide(12345678.5, "1.23456785E7");

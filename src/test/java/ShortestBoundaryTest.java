@@ -94,6 +94,11 @@ public final class ShortestBoundaryTest {
         Fresh.shortestWide(5e-5, 5, -5);
         Fresh.shortestWide(9007199254740992.0, 9007199254740992L, 0);
         Fresh.shortestWide(18014398509481988.0, 18014398509481988L, 0);
+        // A hair above, and a hair below, the middle between two of R.
+        Fresh.shortest(0x6C622DFDE1BBCEEEL, false, 12240314480857619L, 198);
+        Fresh.shortest(0x728C6FCCEA6E7864L, false, 60677268104203365L, 227);
+        Fresh.shortest(0x5EE1B8F0F17AF958L, false, 11330551652959885L, 133);
+        Fresh.shortest(0x4111A59B6FDDB734L, false, 28912685924421553L, -11);
         // The even one of two equally near ones is none of R.
         Fresh.shortestWide(0x1p-24, 5960464477539063L, -23);
     }
